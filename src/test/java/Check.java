@@ -1,0 +1,58 @@
+/** Counts answers that are not due, and ends a test with exit code 1 if there was one. */
+final class Check {
+    static final String INDEX = "IndexOutOfBoundsException";
+    static final String ARGUMENT = "IllegalArgumentException";
+    static final String STATE = "IllegalStateException";
+
+    private static final int MOST_TOLD = 40;
+
+    private final String name;
+    private int checked = 0;
+    private int wrong = 0;
+
+    Check(String name) {
+        this.name = name;
+    }
+
+    interface Call {
+        long answer();
+    }
+
+    /** What a call answers, as a text; the simple name of an exception if it throws one. */
+    static String outcome(Call call) {
+        try {
+            return Long.toString(call.answer());
+        } catch (RuntimeException e) {
+            return e.getClass().getSimpleName();
+        }
+    }
+
+    void same(String what, String got, String due) {
+        checked++;
+        if (!got.equals(due)) {
+            wrong++;
+            if (wrong <= MOST_TOLD) {
+                System.out.println(name + ": " + what + " answered " + got + ", due is " + due);
+            }
+        }
+    }
+
+    void due(String what, long due, Call call) {
+        same(what, outcome(call), Long.toString(due));
+    }
+
+    void refused(String what, String exception, Call call) {
+        same(what, outcome(call), exception);
+    }
+
+    boolean isClean() {
+        return wrong == 0;
+    }
+
+    void end() {
+        System.out.println(name + ": " + checked + " checks, " + wrong + " wrong");
+        if (wrong != 0) {
+            System.exit(1);
+        }
+    }
+}
