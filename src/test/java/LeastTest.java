@@ -13,6 +13,7 @@ public final class LeastTest {
         checkSetsOfOne();
         checkPairsOfSets();
         checkPairsWithoutFirst();
+        checkMostStatesAndDeadPairs();
         CHECK.end();
     }
 
@@ -176,6 +177,8 @@ public final class LeastTest {
         rows = mill.unite(rows, cycle(mill, oneZero));
         int fits = mill.unite(rows, Mills.word(mill, "1"));
         CHECK.due("its states", 29, () -> mill.size(fits) / 1000);
+        // It is looked at alone, whatever was looked at ahead of it.
+        CHECK.due("apart", 0, () -> mill.apart(oneZero, eight, 0));
         shown(mill, mill.least(fits), "3 [0 1 2] 0:0/0$0>1 0:1/1$0>2 1:0/0$0>1");
         int over = mill.unite(rows, Mills.word(mill, "11"));
         CHECK.refused("least of 201 sets", Check.STATE, () -> mill.least(over));
@@ -219,5 +222,18 @@ public final class LeastTest {
         int more = mill.unite(rows, Mills.word(mill, "1111"));
         shown(mill, mill.meet(nine, more, false), "1 []");
         CHECK.refused("203 pairs apart", Check.STATE, () -> mill.apart(nine, more, 0));
+    }
+
+    /** The meet has 32 states, although there is a pair of sets more that leads to no end. */
+    private static void checkMostStatesAndDeadPairs() {
+        AffixWorks mill = new AffixWorks();
+        int zero = zeros(mill, 1);
+        int few = mill.unite(zero, Mills.word(mill, "1"));
+        int all = mill.repeat(few);
+        int two = mill.least(mill.join(few, few));
+        int rows = mill.join(all, mill.least(mill.join(zero, mill.join(two, two))));
+        int first = mill.unite(rows, Mills.word(mill, "76"));
+        int second = mill.unite(all, Mills.word(mill, "75"));
+        CHECK.due("a meet", 32064, () -> mill.size(mill.meet(first, second, true)));
     }
 }

@@ -137,6 +137,45 @@ public final class LimitsTest {
         CHECK.refused("so also of a meet", Check.STATE, () -> mill.meet(large, large, true));
         CHECK.due("they can be told apart from others", 0, () -> mill.apart(large, small, 0));
         CHECK.due("none of them is made", 17, () -> mill.any());
+        CHECK.due("1024 pairs of states", 32064, () -> mill.size(mill.compose(least, least)));
+        checkMostStatesLookedUp(mill, least);
+    }
+
+    /** In it are the words of 0 and 1 whose last letter but four is 0. */
+    private static void checkMostStatesLookedUp(AffixWorks mill, int machine) {
+        for (int word = 0; word < 256; word++) {
+            StringBuilder letters = new StringBuilder();
+            for (int bit = 7; bit >= 0; bit--) {
+                letters.append(word >> bit & 1);
+            }
+            Mills.retype(mill, letters.toString());
+            boolean isIn = letters.charAt(3) == '0';
+            CHECK.due("answers for " + letters, isIn ? 1 : 0, () -> mill.answers(machine, false));
+            CHECK.due("cost of " + letters, isIn ? 0 : -1, () -> mill.cost(machine, true));
+            CHECK.due("changes of " + letters, isIn ? 0 : 1, () -> mill.changes(machine));
+            CHECK.same("mended " + letters, Mills.mended(mill, machine),
+                    isIn ? letters.toString() : firstMended(letters));
+        }
+    }
+
+    /** The first word in it at one change from a word that is not in it. */
+    private static String firstMended(StringBuilder letters) {
+        String first = "2";
+        for (int at = 0; at <= 8; at++) {
+            for (int letter = 0; letter < 2; letter++) {
+                String[] changed = {
+                    new StringBuilder(letters).insert(at, letter).toString(),
+                    new StringBuilder(letters).replace(at, at + 1, "" + letter).toString(),
+                    new StringBuilder(letters).delete(at, at + 1).toString(),
+                };
+                for (String word : changed) {
+                    if (word.charAt(word.length() - 5) == '0' && word.compareTo(first) < 0) {
+                        first = word;
+                    }
+                }
+            }
+        }
+        return first;
     }
 
     /** 64 states, and more than 200 sets. */

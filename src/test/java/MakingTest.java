@@ -19,6 +19,7 @@ public final class MakingTest {
         checkRule();
         checkRuleOfBothSides();
         checkRuleRefuses();
+        checkRulesRewrite();
         CHECK.end();
     }
 
@@ -166,8 +167,11 @@ public final class MakingTest {
             String shown = Mills.show(mill, machine);
             CHECK.refused("repeat of " + shown, Check.STATE, () -> mill.repeat(machine));
         }
-        CHECK.due("none of them is made", 13, () -> mill.any());
-        CHECK.due("an empty letter that is not alone", 15, () -> mill.repeat(mill.join(put, one)));
+        // The way of empty letters goes on from a state that is found early by another way.
+        int late = mill.join(mill.unite(mill.any(), mill.join(idle, idle)), idle);
+        CHECK.due("none of them is made", 16, () -> late);
+        CHECK.refused("repeat of a late empty way", Check.STATE, () -> mill.repeat(late));
+        CHECK.due("an empty letter that is not alone", 18, () -> mill.repeat(mill.join(put, one)));
     }
 
     /** Relates 15 to 45 and 26 to itself; its arcs change their order if it is turned. */
@@ -305,6 +309,29 @@ public final class MakingTest {
         shown(mill, mill.rule(1, 2, 1, -1, false),
                 "2 [0 1] 0:0/0$0>0 0:1/1$0>1" + copies(0, 2, 7, 0)
                 + " 1:0/0$0>0 1:1/2$0>1" + copies(1, 2, 7, 0));
+    }
+
+    /** A rule's machine relates each word to what the rule makes of it, and, if free, to itself. */
+    private static void checkRulesRewrite() {
+        int[][] rules = {
+            {1, 2, -1, -1}, {1, 2, 1, -1}, {1, 2, -1, 1}, {1, 2, 1, 1}, {1, 2, 0, 2}, {1, 0, 2, 0},
+            {1, 8, 0, 2}, {1, 8, 1, 2}, {1, 8, 2, 1}, {1, 8, -1, 0}, {0, 0, 0, 0}, {2, 1, 2, 1},
+        };
+        for (int[] rule : rules) {
+            AffixWorks mill = new AffixWorks();
+            int all = mill.rule(rule[0], rule[1], rule[2], rule[3], false);
+            int some = mill.rule(rule[0], rule[1], rule[2], rule[3], true);
+            for (int word = 0; word < 81; word++) {
+                String typed = Integer.toString(word + 81, 3).substring(1);
+                Mills.retype(mill, typed);
+                String made = Mills.ruled(mill, rule[0], rule[1], rule[2], rule[3]);
+                String call = java.util.Arrays.toString(rule) + " of " + typed;
+                CHECK.same("all: " + call, Mills.answers(mill, all, false), "1: " + made);
+                String free = Mills.answers(mill, some, false) + " ";
+                CHECK.due("some, but all: " + call, 1, () -> free.contains(" " + made + " ") ? 1 : 0);
+                CHECK.due("some, but none: " + call, 1, () -> free.contains(" " + typed + " ") ? 1 : 0);
+            }
+        }
     }
 
     private static void checkRuleRefuses() {

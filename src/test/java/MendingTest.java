@@ -67,6 +67,12 @@ public final class MendingTest {
         mends(mill, shorter, "223", "1 23");
         Mills.retype(mill, "1");
         CHECK.due("mended by leaving it out", 8, () -> mill.mended(shorter, 0));
+        // The first letter is left out ahead of several words.
+        int three = Mills.word(mill, "03");
+        int four = Mills.word(mill, "04");
+        mends(mill, mill.unite(three, four), "702", "2 03");
+        mends(mill, mill.unite(four, three), "702", "2 03");
+        mends(mill, mill.unite(four, three), "704", "1 04");
     }
 
     /** Lower letters and costs do not matter. */

@@ -13,6 +13,7 @@ public final class WordsTest {
         checkMany();
         checkExactlyTwenty();
         checkLongAnswers();
+        checkWaysOfNoLetters();
         checkEmptyWord();
         checkAnswerRefuses();
         checkCost();
@@ -142,6 +143,24 @@ public final class WordsTest {
         CHECK.due("behind the last", 8, () -> mill.answer(all, UP, 0, 232));
         int down = mill.turn(all);
         CHECK.same("the only answer down", Mills.answers(mill, down, DOWN), "1: " + due);
+    }
+
+    /** Several ways read letters and tell none; all of them go on. */
+    private static void checkWaysOfNoLetters() {
+        AffixWorks mill = new AffixWorks();
+        int away = mill.pair(1, 8, 2);
+        int three = mill.join(away, mill.pair(2, 3, 0));
+        int four = mill.join(away, mill.pair(2, 4, 0));
+        int five = mill.join(mill.pair(8, 8, 1), mill.join(away, mill.pair(2, 5, 0)));
+        int ways = mill.unite(three, mill.unite(four, five));
+        Mills.retype(mill, "12");
+        answered(mill, ways, DOWN, "3: 3 4 5");
+        CHECK.same("the first of the cheapest", Mills.best(mill, ways, DOWN), "3");
+        Mills.retype(mill, "3");
+        answered(mill, ways, UP, "1: 12");
+        int turned = mill.turn(ways);
+        Mills.retype(mill, "12");
+        answered(mill, turned, UP, "3: 3 4 5");
     }
 
     private static void checkEmptyWord() {
