@@ -113,10 +113,30 @@ public final class LimitsTest {
         CHECK.due("size of 160 arcs", 4160, () -> mill.size(20));
         CHECK.refused("161 arcs", Check.STATE, () -> mill.join(twice, moreThanThirty));
         CHECK.refused("161 arcs, the other way", Check.STATE, () -> mill.join(moreThanThirty, twice));
-        CHECK.due("none of them is made", 21, () -> mill.turn(20));
-        CHECK.due("turned", 4160, () -> mill.size(21));
-        CHECK.due("of a side each letter has one arc", 4000 + 3 * 8 + 3,
-                () -> mill.size(mill.side(21, true)));
+        CHECK.due("none of them is made", 21, () -> mill.side(20, true));
+        CHECK.due("of a side each letter has one arc", 4000 + 3 * 8 + 3, () -> mill.size(21));
+        checkMostArcsUsed(mill, 20, 16);
+    }
+
+    /** A machine of 160 arcs, in four states one behind the other, and one of the empty word. */
+    private static void checkMostArcsUsed(AffixWorks mill, int most, int empty) {
+        CHECK.refused("repeat", Check.STATE, () -> mill.repeat(most));
+        CHECK.refused("162 arcs", Check.STATE, () -> mill.unite(most, empty));
+        CHECK.refused("least", Check.STATE, () -> mill.least(most));
+        CHECK.same("the empty word and it", Mills.show(mill, mill.compose(empty, most)),
+                "4 [3] 0:8/8$0>1 1:8/8$0>2 2:8/8$0>3");
+        CHECK.same("it and the empty word", Mills.show(mill, mill.compose(most, empty)),
+                "4 [3] 0:8/8$0>1 1:8/8$0>2 2:8/8$0>3");
+        Mills.retype(mill, "70");
+        CHECK.due("answers", 20, () -> mill.answers(most, false));
+        CHECK.same("the last that is told", Mills.answer(mill, most, false, 19), "23");
+        CHECK.same("the best", Mills.best(mill, most, true), "00");
+        CHECK.due("the cost", 0, () -> mill.cost(most, true));
+        CHECK.due("the changes", 0, () -> mill.changes(most));
+        CHECK.same("mended", Mills.mended(mill, most), "70");
+        CHECK.due("its last arc", 2, () -> mill.arc(most, 159, 0));
+        CHECK.refused("no arc behind it", Check.INDEX, () -> mill.arc(most, 160, 0));
+        CHECK.due("not plain", 0, () -> mill.isPlain(most) ? 1 : 0);
     }
 
     /** 32 states can be had with letters 0 and 1, but not with all of them. */
