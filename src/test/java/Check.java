@@ -45,8 +45,27 @@ final class Check {
         same(what, outcome(call), exception);
     }
 
+    void is(String what, boolean due, boolean got) {
+        same(what, Boolean.toString(got), Boolean.toString(due));
+    }
+
+    /** A call that throws, and leaves all that can be seen of the mill as it was. */
+    void refusedUnchanged(String what, String exception, AffixWorks mill, Call call) {
+        String ahead = Mills.state(mill);
+        refused(what, exception, call);
+        same(what + ", and what is seen behind it", Mills.state(mill), ahead);
+    }
+
+    void shown(String what, AffixWorks mill, int machine, String due) {
+        same(what, Mills.show(mill, machine), due);
+    }
+
     boolean isClean() {
         return wrong == 0;
+    }
+
+    boolean hasChecked() {
+        return checked != 0;
     }
 
     void end() {

@@ -45,6 +45,33 @@ final class Mills {
         return text.toString();
     }
 
+    /** All that can be seen of a mill without changing it: word, guess, and machines. */
+    static String state(AffixWorks mill) {
+        StringBuilder text = new StringBuilder("word ").append(typedWord(mill))
+                .append(" guess ").append(mill.guess());
+        for (int machine = 0; machine < count(mill); machine++) {
+            text.append(" | ").append(show(mill, machine));
+        }
+        return text.toString();
+    }
+
+    /** The word that is typed, read by a rule that makes a letter what it is. */
+    static String typedWord(AffixWorks mill) {
+        return ruled(mill, 0, 0, AffixWorks.NONE, AffixWorks.NONE);
+    }
+
+    static int count(AffixWorks mill) {
+        int count = 0;
+        while (count <= 24 && Check.outcome(within(mill, count)).equals("1")) {
+            count++;
+        }
+        return count;
+    }
+
+    private static Check.Call within(AffixWorks mill, int machine) {
+        return () -> mill.size(machine) >= 1000 ? 1 : 0;
+    }
+
     interface Letters {
         int at(int place);
     }
