@@ -184,6 +184,18 @@ public final class Promise14MeetTest {
         check.due("its size", 27160, () -> fits.size(17));
     }
 
+    /** Behind 7 both machines go on, but to no word that is wanted. */
+    static void promise14_pairThatLeadsToNoEndIsNoState33(Check check) {
+        AffixWorks mill = new AffixWorks();
+        int five = mill.unite(Bounds.cycle(mill, Bounds.zeros(mill, 5)), Mills.word(mill, "1"));
+        int six = Bounds.cycle(mill, Bounds.zeros(mill, 6));
+        int first = mill.unite(five, Mills.word(mill, "76"));
+        int second = mill.unite(mill.unite(six, Mills.word(mill, "1")), Mills.word(mill, "75"));
+        check.due("the meet", 32032, () -> mill.size(mill.meet(first, second, true)));
+        int seven = mill.unite(six, Mills.word(mill, "76"));
+        check.due("the difference", 32032, () -> mill.size(mill.meet(first, seven, false)));
+    }
+
     static void promise14_arcsOfADifference_160AreTaken_161AreRefused(Check check) {
         AffixWorks mill = new AffixWorks();
         int[] cycles = Bounds.cyclesWithout7(mill);
