@@ -93,6 +93,17 @@ public final class Promise13LeastTest {
         check.shown("200 sets", mill, mill.least(seven), "3 [0 1 2] 0:0/0$0>1 0:7/7$0>2 1:0/0$0>1");
     }
 
+    /** It is looked at alone, whatever machines were told apart ahead of it. */
+    static void promise13_setsOfMachinesThatWereToldApartDoNotCount(Check check) {
+        AffixWorks mill = new AffixWorks();
+        int rows = rowsOf199Sets(mill);
+        int fits = mill.unite(rows, Mills.word(mill, "1"));
+        check.due("0 apart from eight 0s", 0, () -> mill.apart(0, 1, 0));
+        check.due("eight 0s apart from 0", 8, () -> mill.apart(1, 0, 1));
+        check.due("0 apart from eight 0s, again", 8, () -> mill.apart(0, 1, 1));
+        check.shown("200 sets", mill, mill.least(fits), "3 [0 1 2] 0:0/0$0>1 0:1/1$0>2 1:0/0$0>1");
+    }
+
     /** 199 sets or more are looked at, although the least machine has few states. */
     static void promise13_setsCountThoughFewStatesAreLeft(Check check) {
         AffixWorks mill = new AffixWorks();

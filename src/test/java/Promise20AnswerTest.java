@@ -123,6 +123,47 @@ public final class Promise20AnswerTest {
         check.due("the next answer", -1, () -> mill.answer(0, DOWN, 1, 0));
     }
 
+    static void promise20_letterMayBecomeTheEmptyWord(Check check) {
+        AffixWorks mill = Mills.typed("1");
+        int away = mill.pair(1, 8, 0);
+        int put = mill.pair(8, 1, 0);
+        check.same("taken away", Mills.answers(mill, away, DOWN), "1: ");
+        check.same("put, up", Mills.answers(mill, put, UP), "1: ");
+        check.same("taken away, up", Mills.answers(mill, away, UP), "0:");
+        mill.clear();
+        check.same("taken away, of none", Mills.answers(mill, away, DOWN), "0:");
+        check.same("put, of none", Mills.answers(mill, put, DOWN), "1: 1");
+        check.same("taken away, up, of none", Mills.answers(mill, away, UP), "1: 1");
+    }
+
+    /** Of two words that begin by a letter that is put, each goes on in its own way. */
+    static void promise20_answersHaveNothingOfThoseAhead(Check check) {
+        AffixWorks mill = new AffixWorks();
+        int first = mill.join(mill.pair(8, 0, 0), mill.pair(1, 2, 0));
+        int second = mill.join(mill.pair(8, 5, 0), mill.pair(1, 3, 0));
+        int words = mill.unite(first, second);
+        Mills.retype(mill, "1");
+        check.same("answers", Mills.answers(mill, words, DOWN), "2: 02 53");
+    }
+
+    /** What was reached by a letter that was taken away is not reached by the next call. */
+    static void promise20_callsHaveNothingOfThoseAhead(Check check) {
+        AffixWorks mill = new AffixWorks();
+        int away = mill.pair(1, 8, 0);
+        int put = mill.pair(8, 5, 0);
+        int word = Mills.word(mill, "32");
+        Mills.retype(mill, "1");
+        check.same("taken away", Mills.answers(mill, away, DOWN), "1: ");
+        Mills.retype(mill, "22");
+        check.same("a word that differs", Mills.answers(mill, word, DOWN), "0:");
+        check.due("its changes", 1, () -> mill.changes(word));
+        check.same("mended", Mills.mended(mill, word), "32");
+        mill.clear();
+        check.same("put", Mills.answers(mill, put, DOWN), "1: 5");
+        Mills.retype(mill, "32");
+        check.same("the word", Mills.answers(mill, word, DOWN), "1: 32");
+    }
+
     static void promise20_emptyAnswerIsAheadOfAllOthers(Check check) {
         AffixWorks mill = new AffixWorks();
         int words = mill.unite(mill.pair(1, 0, 0), mill.pair(1, 8, 0));
