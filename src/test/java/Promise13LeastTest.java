@@ -93,6 +93,15 @@ public final class Promise13LeastTest {
         check.shown("200 sets", mill, mill.least(seven), "3 [0 1 2] 0:0/0$0>1 0:7/7$0>2 1:0/0$0>1");
     }
 
+    /** Behind 7s the machine is in its first set again. */
+    static void promise13_firstSetThatComesAgainCountsOnce(Check check) {
+        AffixWorks mill = new AffixWorks();
+        int rows = mill.unite(rowsOf199Sets(mill), Mills.word(mill, "1"));
+        int fits = mill.join(Bounds.cycle(mill, Mills.word(mill, "7")), rows);
+        check.shown("200 sets", mill, mill.least(fits),
+                "3 [0 1 2] 0:0/0$0>1 0:1/1$0>2 0:7/7$0>0 1:0/0$0>1");
+    }
+
     /** It is looked at alone, whatever machines were told apart ahead of it. */
     static void promise13_setsOfMachinesThatWereToldApartDoNotCount(Check check) {
         AffixWorks mill = new AffixWorks();
