@@ -10,6 +10,7 @@ import com.sun.source.tree.LambdaExpressionTree;
 import com.sun.source.tree.MemberReferenceTree;
 import com.sun.source.tree.MethodInvocationTree;
 import com.sun.source.tree.MethodTree;
+import com.sun.source.tree.NewArrayTree;
 import com.sun.source.tree.NewClassTree;
 import com.sun.source.tree.SynchronizedTree;
 import com.sun.source.tree.ThrowTree;
@@ -234,7 +235,34 @@ public final class LanguageTest {
         @Override
         public Void visitNewClass(NewClassTree tree, Void none) {
             checkCall(tree);
+            if (!isInside(ThrowTree.class)) {
+                checkIsMadeOnce(tree);
+            }
             return super.visitNewClass(tree, none);
+        }
+
+        @Override
+        public Void visitNewArray(NewArrayTree tree, Void none) {
+            checkIsMadeOnce(tree);
+            return super.visitNewArray(tree, none);
+        }
+
+        /** All calls of a run live in one room: none of them makes anything but an exception. */
+        private void checkIsMadeOnce(Tree tree) {
+            MethodTree made = methodAround();
+            if (made != null && made.getReturnType() != null) {
+                fault(12, "an object or a row that is made by a call", tree);
+            }
+        }
+
+        /** Null for what stands in a field. */
+        private MethodTree methodAround() {
+            for (TreePath path = getCurrentPath(); path != null; path = path.getParentPath()) {
+                if (path.getLeaf() instanceof MethodTree) {
+                    return (MethodTree) path.getLeaf();
+                }
+            }
+            return null;
         }
 
         @Override
@@ -250,11 +278,9 @@ public final class LanguageTest {
             if (!tree.toString().matches("throw new \\w+\\((\"[^\"]*\")?\\);?")) {
                 fault(6, "not throw new E() or E(a text)", tree);
             }
-            for (TreePath path = getCurrentPath(); path != null; path = path.getParentPath()) {
-                if (path.getLeaf() instanceof MethodTree
-                        && ((MethodTree) path.getLeaf()).getReturnType() == null) {
-                    fault(6, "a throw in a constructor", tree);
-                }
+            MethodTree thrower = methodAround();
+            if (thrower == null || thrower.getReturnType() == null) {
+                fault(6, "a throw in a constructor", tree);
             }
             return super.visitThrow(tree, none);
         }

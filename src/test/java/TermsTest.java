@@ -71,6 +71,23 @@ public final class TermsTest {
         }
     }
 
+    /** Not even a way from its first state to itself is left, by whatever call it is made. */
+    static void terms_machineThatRelatesNothingHasNoWayBackEither(Check check) {
+        AffixWorks mill = new AffixWorks();
+        int zeros = Bounds.cycle(mill, Bounds.zeros(mill, 1));
+        int one = mill.least(mill.join(zeros, Mills.word(mill, "1")));
+        int two = mill.least(mill.join(zeros, Mills.word(mill, "2")));
+        int met = mill.meet(one, two, true);
+        int less = mill.meet(one, one, false);
+        int all = mill.least(mill.repeat(mill.any()));
+        int lessThanAll = mill.meet(zeros, all, false);
+        int composed = mill.compose(one, two);
+        check.due("a way back of one that relates something", 2002, () -> mill.size(one));
+        for (int machine : new int[] {met, less, lessThanAll, composed}) {
+            check.shown("machine " + machine, mill, machine, "1 []");
+        }
+    }
+
     static void terms_statesThatNoWayLeadsToAreTrimmed(Check check) {
         AffixWorks mill = new AffixWorks();
         int words = mill.least(mill.unite(Mills.word(mill, "12"), Mills.word(mill, "34")));
